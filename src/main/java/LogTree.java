@@ -210,13 +210,13 @@ public final class LogTree {
     /** The greatest power of two below n, for n from 2 on. */
     private static int powerBelow(int n) {
         int k = 1;
-        while (k < n - k) {
+        while (k < LONGEST_ROW && k < n - k) {
             k += k;
         }
         return k;
     }
 
-    /** At most 600 LEAVES, halved or better on one side each time: some ten levels deep. */
+    /** Neither side is more than the power of two below n: of 600 LEAVES at most ten splits deep. */
     private static long headOf(long[] leaves, int from, int to) {
         int n = to - from;
         if (n <= 0) {
