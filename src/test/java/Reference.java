@@ -29,6 +29,14 @@ final class Reference {
         return mix(1, v);
     }
 
+    /** MIX backwards: the one long whose LEAF is this. */
+    static long valueOfLeaf(long leaf) {
+        BigInteger z = unsigned(leaf);
+        z = z.xor(z.shiftRight(32)).multiply(SECOND.modInverse(WORD)).mod(WORD);
+        BigInteger y = z.xor(z.shiftRight(29)).xor(z.shiftRight(58));
+        return y.multiply(FIRST.modInverse(WORD)).mod(WORD).longValue() ^ 1;
+    }
+
     static long node(long a, long b) {
         return mix(mix(2, a), b);
     }

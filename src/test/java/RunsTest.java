@@ -131,7 +131,8 @@ public final class RunsTest {
             long before = model.head(m + 1);
             long head = model.head(n);
             same(where + "grew " + place + " " + n,
-                    () -> model.grew(place, n, before, head) ? 1 : 0, () -> x.grew(place, n, before, head) ? 1 : 0);
+                    () -> model.grew(place, n, before, head) ? 1 : 0,
+                    () -> x.grew(place, n, before, head) ? 1 : 0);
         }
     }
 
